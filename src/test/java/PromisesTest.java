@@ -127,6 +127,10 @@ public final class PromisesTest {
         due("3 only what is moved costs", 0, x.told(0));
         x.put(1, 5);
         due("3 the other one's weight", 1, x.told(0));
+        x.weight(1, 2, 4);
+        x.keep();
+        x.put(1, 2);
+        due("3 as far down as up", 14, x.told(0));
     }
 
     // ---- 4
@@ -805,6 +809,17 @@ public final class PromisesTest {
         due("23 none holds with the first as it was", NONE, y.why(0));
         y.base(1);
         due("23 of the other base it is not moved", STATE, y.why(0));
+
+        NearPlans all = withDecisions(1, 0, 5);
+        for (int i = 0; i < 6; i++) all.fact(0);
+        all.rule(2, 0, 0, 5);
+        all.rule(2, 0, 0, 0);
+        all.keep();
+        for (int i = 0; i < 6; i++) all.change(i, 2);
+        all.run();
+        due("23 none of six facts alone", NONE, all.why(0));
+        all.change(0, -2);
+        due("23 the last fact", 5, all.why(0));
 
         NearPlans z = withDecisions(1, 0, 5);
         z.fact(1);

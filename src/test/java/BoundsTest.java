@@ -104,8 +104,8 @@ public final class BoundsTest {
     }
 
     /**
-     * What an object answers to every question; it is of no use behind that. These are 368 calls, so that with those of
-     * a state they stay within the 512 that count.
+     * What an object answers to every question; it is of no use behind that. These are 406 calls, so that with the 80 at
+     * most that a state takes they stay within the 512 that count.
      */
     private static List<Integer> picture(NearPlans x) {
         List<Integer> seen = new ArrayList<>();
@@ -117,6 +117,12 @@ public final class BoundsTest {
         for (int r = 0; r < 12; r++) seen.add(x.without(r));
         for (int person = 0; person < 4; person++) seen.add(x.spare(person));
         for (int i = -1; i < 12; i++) seen.add(x.clash(i));
+        int base = x.told(7);
+        for (int kept = 0; kept < 3; kept++) {
+            seen.addAll(List.of(x.base(kept), x.told(0)));
+            for (int d = 0; d < 6; d++) seen.add(x.why(d));
+        }
+        x.base(base);
         for (int i = 0; i < 9; i++) {
             seen.add(x.undo());
             for (int d = 0; d < 6; d++) seen.add(x.value(d));
@@ -127,6 +133,11 @@ public final class BoundsTest {
             for (int d = 0; d < 6; d++) seen.add(x.value(d));
         }
         seen.add(x.keep());
+        for (int person = 0; person < 4; person++) {
+            x.limit(person, 0);
+            seen.add(x.near(2000));
+            x.limit(person, 6);
+        }
         for (int d = 0; d < 6; d++) {
             int value = x.value(d);
             for (int v = 0; v < 6; v++) seen.addAll(List.of(x.put(d, v), x.told(0), x.told(5), x.told(6), x.worth(d, v, 0)));
@@ -444,6 +455,9 @@ public final class BoundsTest {
         bounded("5 the decision of two", BoundsTest::kept, 0, 1, UNKNOWN, n -> 1, (x, n) -> x.pin(n, 2));
         bounded("5 the decision of six", BoundsTest::full, 0, 5, UNKNOWN, n -> 1, (x, n) -> x.pin(n, 2));
         bounded("5 to none", BoundsTest::full, 0, 5, UNKNOWN, n -> 1, (x, n) -> x.pin(n, NONE));
+        // NONE is no value but it is not refused.
+        bounded("5 pinned before", BoundsTest::fewPinned, 1, 4, OUTSIDE, n -> 1, (x, n) -> n == NONE ? OUTSIDE : x.pin(0, n));
+        bounded("5 pinned before, two values", BoundsTest::kept, 2, 3, OUTSIDE, n -> 1, (x, n) -> n == NONE ? OUTSIDE : x.pin(1, n));
         refused("5 unknown ahead of outside", UNKNOWN, BoundsTest::kept, x -> x.pin(2, 6));
         refused("5 unknown ahead of outside", UNKNOWN, BoundsTest::kept, x -> x.pin(-1, -1));
         NearPlans all = withDecisions(6, 0, 5);
@@ -454,6 +468,12 @@ public final class BoundsTest {
         for (int d = 0; d < 6; d++) due("5 all pinned", 5 - d, all.value(d));
         for (int d = 0; d < 6; d++) all.pin(d, NONE);
         due("5 none pinned", 46656, all.near(0));
+    }
+
+    private static NearPlans fewPinned() {
+        NearPlans x = few();
+        x.pin(0, 2);
+        return x;
     }
 
     private static void pinOf(int low, int high) {
@@ -691,6 +711,8 @@ public final class BoundsTest {
                 bounded("11 of " + l + " to " + h, () -> withDecisions(2, l, h), l, h, OUTSIDE, n -> l, (x, n) -> x.put(1, n));
             }
         }
+        bounded("11 of 1 to 4, with 3", BoundsTest::few, 1, 4, OUTSIDE, n -> 3, (x, n) -> x.put(0, n));
+        bounded("11 of 0 to 5, with 4", () -> sixWith(4, 4, 4, 4, 4, 4), 0, 5, OUTSIDE, n -> 4, (x, n) -> x.put(5, n));
         bounded("11 the decision of none", BoundsTest::empty, 0, -1, UNKNOWN, n -> 0, (x, n) -> x.put(n, 0));
         bounded("11 the decision of two", BoundsTest::few, 0, 1, UNKNOWN, n -> n == 0 ? 3 : 2, (x, n) -> x.put(n, 3));
         int[] values = valuesOf(full());

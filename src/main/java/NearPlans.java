@@ -514,7 +514,7 @@ public final class NearPlans {
         }
 
         boolean hasBase() {
-            return knowsKept(base);
+            return base >= 0 && base < keptCount;
         }
 
         /** Only called while there is room. */

@@ -1029,32 +1029,34 @@ public final class PromisesTest {
         due("1 apart", 3, x.change(0, 3));
     }
 
-    /** No call may throw, whatever it is given in whatever state. */
+    /** No call may throw, whatever it is given in whatever state. For each number a new object, as 512 calls are its use. */
     private static void anyNumbersAnywhere() {
         int[] odd = {LEAST, LEAST + 1, -46656, -6, -5, -2, -1, 0, 1, 5, 6, 11, 12, 31, 32, 64, 4096, MOST - 1, MOST};
-        NearPlans[] states = {new NearPlans(), withDecisions(1, 2, 2), withDecisions(6, 0, 5), withDecisions(3, 0, 5)};
-        states[3].fact(2);
-        states[3].rule(2, 0, 1, 0);
-        states[3].keep();
-        states[3].put(0, 4);
-        for (NearPlans x : states) {
-            for (int a : odd) {
-                int[] answers = {x.value(a), x.base(a), x.told(a), x.near(a), x.without(a), x.spare(a), x.why(a), x.way(a),
-                    x.broken(a), x.clash(a), x.first(a), x.fact(a)};
-                for (int answer : answers) if (answer < NONE) due("7 an answer for " + a, 0, answer);
-                for (int b : odd) {
-                    x.pin(a, b);
-                    x.limit(a, b);
-                    x.change(a, b);
-                    x.put(a, b);
-                    x.old(a, b);
-                    x.weight(a, b, b);
-                    x.worth(b, a, b);
-                    x.decision(a, b, a);
-                    x.rule(a, b, a, b);
-                    x.rule(5, a, b, 0);
-                }
-            }
+        for (int a : odd) {
+            NearPlans[] states = {new NearPlans(), withDecisions(1, 2, 2), withDecisions(6, 0, 5), withDecisions(3, 0, 5)};
+            states[3].fact(2);
+            states[3].rule(2, 0, 1, 0);
+            states[3].keep();
+            states[3].put(0, 4);
+            for (NearPlans x : states) anyNumbers(x, a, odd);
         }
+    }
+
+    private static void anyNumbers(NearPlans x, int a, int[] odd) {
+        for (int b : odd) {
+            x.pin(a, b);
+            x.limit(a, b);
+            x.change(a, b);
+            x.put(a, b);
+            x.old(a, b);
+            x.weight(a, b, b);
+            x.worth(b, a, b);
+            x.decision(a, b, a);
+            x.rule(a, b, a, b);
+            x.rule(5, a, b, 0);
+        }
+        int[] answers = {x.value(a), x.base(a), x.told(a), x.near(a), x.without(a), x.spare(a), x.why(a), x.way(a), x.broken(a),
+            x.clash(a), x.first(a), x.fact(a)};
+        for (int answer : answers) if (answer < NONE) due("no such answer for " + a, 0, answer);
     }
 }

@@ -10,6 +10,7 @@ import java.util.Random;
  */
 public final class ReferenceTest {
     private static final int UNKNOWN = -1, OUTSIDE = -2, STATE = -3, ROOM = -4, NONE = -5;
+    private static final int LAST_CALL = 512;
     private static int wrong = 0;
 
     public static void main(String[] args) {
@@ -18,6 +19,7 @@ public final class ReferenceTest {
             Run run = new Run(seed);
             if (seed % 2 == 0) run.goMildly();
             else run.go();
+            if (seed % 10 < 2) run.goToTheEnd();
         }
         System.out.println(wrong == 0 ? "all answers are as due" : wrong + " answers are not as due");
         if (wrong != 0) System.exit(1);
@@ -99,6 +101,11 @@ public final class ReferenceTest {
             if (random.nextInt(4) == 0) call("base", spread(0, 2));
         }
 
+        /** Up to the last call whose answer is not free. */
+        void goToTheEnd() {
+            for (int i = 0; i < LAST_CALL && calls.size() < LAST_CALL; i++) any();
+        }
+
         int decision() { return random.nextInt(25) == 0 ? spread(-2, 8) : random.nextInt(Math.max(1, model.lows.size())); }
         int aFact() { return random.nextInt(25) == 0 ? spread(-2, 8) : random.nextInt(Math.max(1, model.facts.size())); }
         int spread(int least, int most) { return least + random.nextInt(most - least + 1); }
@@ -142,6 +149,7 @@ public final class ReferenceTest {
         void allValues() { for (int i = 0; i < model.lows.size(); i++) call("value", i); }
 
         void call(String name, int... a) {
+            if (calls.size() >= LAST_CALL) return;
             StringBuilder told = new StringBuilder(name).append('(');
             for (int i = 0; i < a.length; i++) told.append(i == 0 ? "" : ", ").append(a[i]);
             told.append(')');
